@@ -65,7 +65,8 @@ final class Checks {
             state.append(x.yard(y, 0)).append(x.yard(y, 1)).append(' ');
         }
         for (int p = 0; p < x.count(1); p++) {
-            state.append(x.pusher(p, 0)).append('/').append(x.pusher(p, 1)).append('/').append(x.pusher(p, 2)).append(' ');
+            state.append(x.pusher(p, 0)).append('/').append(x.pusher(p, 1)).append('/');
+            state.append(x.pusher(p, 2)).append(' ');
         }
         state.append(x.curve(1, 0));
         return state.toString();

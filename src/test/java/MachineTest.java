@@ -74,8 +74,8 @@ public final class MachineTest {
         checks.holds("some twelve classes", face.getDeclaredClasses().length <= 11);
         for (Class<?> inside : face.getDeclaredClasses()) {
             int modifiers = inside.getModifiers();
-            boolean hidden = Modifier.isStatic(modifiers) && !Modifier.isPublic(modifiers) && !Modifier.isProtected(modifiers);
-            checks.holds("static and hidden: " + inside, hidden);
+            boolean shown = Modifier.isPublic(modifiers) || Modifier.isProtected(modifiers);
+            checks.holds("static and hidden: " + inside, Modifier.isStatic(modifiers) && !shown);
             for (Method method : inside.getDeclaredMethods()) {
                 checks.holds("no name of the face: " + method, !names.contains(method.getName()));
             }
@@ -91,18 +91,28 @@ public final class MachineTest {
         for (String word : FORBIDDEN) {
             checks.holds("the source is without '" + word + "'", !source.contains(word));
         }
-        int begun = 0;
-        int lines = 0;
         for (String line : source.split("\n")) {
-            lines++;
             checks.holds("ASCII: " + line, line.chars().allMatch(c -> c >= 32 && c < 127));
-            if (line.matches(" {4,8}[\\w\\[\\]<> ]+\\(.*\\{")) {
-                begun = lines;
+        }
+        checks.holds("methods are found", lengthsAreSome(source, "    ") > 50 && lengthsAreSome(source, "        ") > 50);
+    }
+
+    /** Looks at the length of each method that begins with an indent: how many methods there are. */
+    private static int lengthsAreSome(String source, String indent) {
+        int methods = 0;
+        int begun = -1;
+        String[] lines = source.split("\n");
+        for (int i = 0; i < lines.length; i++) {
+            if (lines[i].matches(indent + "(?!if|for|while|switch|try|else|do)\\w[\\w\\[\\], ]*\\(.*\\{")) {
+                begun = i;
             }
-            if (line.matches(" {4}(    )?}")) {
-                checks.holds("a method of some sixty lines ends at line " + lines, lines - begun <= 60 || line.startsWith("    }"));
+            if (begun >= 0 && lines[i].equals(indent + "}")) {
+                methods++;
+                checks.holds("a method of at most sixty lines ends at " + (i + 1), i - begun < 60);
+                begun = -1;
             }
         }
+        return methods;
     }
 
     private static final int[] EDGES = {
@@ -114,8 +124,8 @@ public final class MachineTest {
         List<Method> calls = calls();
         for (int run = 0; run < 300; run++) {
             Random random = new Random(run);
-            PushedTillItCatches x = run % 3 == 0 ? new PushedTillItCatches()
-                    : Checks.told("y1" + run % 10 + ";y63;y59;y29;y45;y34;y77;p12051;p20400;p00001;w0" + (1 + run % 9) + ";");
+            String street = "y1" + run % 10 + ";y63;y59;y29;y45;y34;y77;p12051;p20400;p00001;w0" + (1 + run % 9) + ";";
+            PushedTillItCatches x = Checks.told(run % 3 == 0 ? "" : street);
             for (int k = 0; k < 480; k++) {
                 Method call = calls.get(random.nextInt(calls.size()));
                 Object[] arguments = new Object[call.getParameterCount()];

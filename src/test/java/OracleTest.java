@@ -164,7 +164,8 @@ public final class OracleTest {
             default:
                 int m = from(1, 20);
                 int z = random.nextInt();
-                same("mornings(" + m + ", " + z + ", " + what + ")", x.mornings(m, z, what), oracle.mornings(m, z, what));
+                String call = "mornings(" + m + ", " + z + ", " + what + ")";
+                same(call, x.mornings(m, z, what), oracle.mornings(m, z, what));
         }
     }
 

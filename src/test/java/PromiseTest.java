@@ -626,12 +626,16 @@ public final class PromiseTest {
         due("18: pushUp(-1)", x.pushUp(-1), -1);
         due("18: while it RUNS", told(RUNNING).pushUp(0), -3);
         due("18: pushUp(2) while it RUNS", told(RUNNING).pushUp(2), -1);
-        due("18: two, of whom one has BREATH", backed("p00000;p00010;"), 1);
+        due("18: two, of whom one has BREATH", backedFromEnd("y49;p00000;p00010;"), 1);
+        due("18: none has BREATH for two", backedFromEnd("y49;y00;p00000;p00010;"), -4);
+        due("18: BREATH for two", backedFromEnd("y49;y00;p00000;p00020;"), 2);
+        due("18: no BREATH is left to push", backedFromEnd("y00;p20010;w01;"), -4);
+        due("18: one BREATH is left to push", backedFromEnd("y00;p20020;w01;"), 1);
     }
 
-    private static int backed(String pushers) {
-        PushedTillItCatches x = told("y49;y00;" + pushers);
-        x.parks(1);
+    private static int backedFromEnd(String text) {
+        PushedTillItCatches x = told(text);
+        x.parks(x.count(0));
         return x.pushUp(0);
     }
 
@@ -645,8 +649,8 @@ public final class PromiseTest {
         due("19: no wait keeps PACE", told(PLAIN + "r06;").howLong(), 0);
         due("19: a wait does not", told(PLAIN + "r06;g6;").howLong(), -4);
         due("19: never", told(FIVE + "p16400;").howLong(), -4);
-        // 31 BREATHS of two: 60 minutes give 30 to each.
-        due("19: all the 60 minutes", told(TEN + TEN + "p08000;p08000;c9;").howLong(), 20);
+        due("19: for BREATH of two", told(TEN + TEN + "p08000;p08000;c9;").howLong(), 20);
+        due("19: a minute, to lose PACE", told("y49;".repeat(8) + "r04;").howLong(), 1);
         due("19: while it RUNS", told(RUNNING).howLong(), -3);
     }
 
@@ -821,6 +825,8 @@ public final class PromiseTest {
         due("27: tryNext of a YARD", x.tryNext(2), -12);
         Checks.fill(x, 2, 2, 2, 2, MAX);
         due("27: tryNext of another number", x.tryNext(2), -13);
+        Checks.fill(x, 2, 1, 0, 3);
+        due("27: tryNext of a 3", x.tryNext(2), -13);
         Checks.fill(x, 2, 1, 0, -1);
         due("27: tryNext of a number below 0", x.tryNext(2), -13);
         Checks.fill(x, 2, 0, new int[100]);
@@ -1090,10 +1096,12 @@ public final class PromiseTest {
         due("37: row(0, -1, 1)", x.row(0, -1, 1), -1);
         due("37: row(8, 0, -1)", x.row(8, 0, -1), -1);
         due("37: row(-1, 0, 1)", x.row(-1, 0, 1), -1);
+        x.put(0, 0, 77);
         x.put(0, 99, 77);
         due("37: it is held still", x.element(0, 99), 77);
         due("37: row(0, 2, 100)", x.row(0, 2, 100), 0);
         due("37: 0 at first", x.element(0, 99), 0);
+        due("37: 0 at first, too", x.element(0, 0), 0);
         due("37: row(0, 2, 0)", x.row(0, 2, 0), 0);
         due("37: no place", x.put(0, 0, 1), -13);
         x.keep(1, 1, 0, 0);
