@@ -279,7 +279,7 @@ public final class PushedTillItCatches {
         }
         for (int back = 0; back <= now.at; back++) {
             Street street = inMind();
-            if (!street.isPushedBack(back)) {
+            if (!street.pushBack(back)) {
                 return NONE;
             }
             int n = street.rollTillCaught(EVERYBODY, ANY_GEAR);
@@ -1194,8 +1194,8 @@ public final class PushedTillItCatches {
             return NONE;
         }
 
-        /** Whether it can be pushed back so many YARDS; it is, and stands then (0: all as it is). */
-        boolean isPushedBack(int back) {
+        /** Pushes it back so many YARDS, where it stands then (0: all as it is): whether that can be. */
+        boolean pushBack(int back) {
             for (int k = 0; k < back; k++) {
                 if (allBreaths() == 0) {
                     return false;

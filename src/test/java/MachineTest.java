@@ -94,11 +94,12 @@ public final class MachineTest {
         for (String line : source.split("\n")) {
             checks.holds("ASCII: " + line, line.chars().allMatch(c -> c >= 32 && c < 127));
         }
-        checks.holds("methods are found", lengthsAreSome(source, "    ") > 50 && lengthsAreSome(source, "        ") > 50);
+        checks.holds("methods of the class are found", countMethods(source, "    ") > 50);
+        checks.holds("methods of the classes inside are found", countMethods(source, "        ") > 50);
     }
 
     /** Looks at the length of each method that begins with an indent: how many methods there are. */
-    private static int lengthsAreSome(String source, String indent) {
+    private static int countMethods(String source, String indent) {
         int methods = 0;
         int begun = -1;
         String[] lines = source.split("\n");
