@@ -557,7 +557,9 @@ public final class PushedTillItCatches {
         Street street = inMind();
         for (int i = 0; i < row.size; i++) {
             int told = row.at(i);
-            if (told != row.leastNumber() && told != street.pace) {
+            // In mind nothing is rolled beyond 40 YARDS: what is told of it is not so, whatever it is.
+            boolean isSo = i <= MOST_IN_MIND && told == street.pace;
+            if (told != row.leastNumber() && !isSo) {
                 return i;
             }
             street.rollYard(EVERYBODY);

@@ -724,7 +724,10 @@ final class Oracle {
         }
         int least = sorts[d] == 0 ? Byte.MIN_VALUE : sorts[d] == 1 ? Short.MIN_VALUE : Integer.MIN_VALUE;
         for (int i = 0; i < rows[d].length; i++) {
-            if (rows[d][i] != least && rows[d][i] != world.rolled(i).pace) {
+            if (rows[d][i] == least) {
+                continue;
+            }
+            if (i > 40 || rows[d][i] != world.rolled(i).pace) {
                 return i;
             }
         }

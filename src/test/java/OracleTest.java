@@ -267,17 +267,25 @@ public final class OracleTest {
                 same("forged(" + d + ")", x.forged(d), oracle.forged(d));
                 break;
             default:
-                int[] paces = new int[random.nextInt(4) == 0 ? 60 : n];
-                for (int i = 0; i < paces.length; i++) {
-                    paces[i] = (int) oracle.behind(Math.min(i, 40), 0);
-                }
-                if (paces.length > 0 && random.nextInt(2) == 0) {
-                    paces[random.nextInt(paces.length)] = sort == 0 ? -128 : sort == 1 ? -32768 : Integer.MIN_VALUE;
-                    paces[random.nextInt(paces.length)] += random.nextInt(2);
-                }
-                fill(d, sort, paces);
+                fill(d, sort, toldPaces(sort, random.nextInt(4) == 0 ? inside(39, 60) : n));
                 same("judge(" + d + ")", x.judge(d), oracle.judge(d));
         }
+    }
+
+    /** PACES as they would be, some of them skipped or not so; beyond 40 YARDS more are skipped. */
+    private int[] toldPaces(int sort, int n) {
+        int skipped = sort == 0 ? -128 : sort == 1 ? -32768 : Integer.MIN_VALUE;
+        int skippedBeyond = inside(0, 20);
+        int[] paces = new int[n];
+        for (int i = 0; i < n; i++) {
+            boolean isSkipped = i > 40 && i <= 40 + skippedBeyond;
+            paces[i] = isSkipped ? skipped : (int) oracle.behind(Math.min(i, 40), 0);
+        }
+        if (n > 0 && random.nextInt(2) == 0) {
+            paces[random.nextInt(n)] = skipped;
+            paces[random.nextInt(n)] += random.nextInt(2);
+        }
+        return paces;
     }
 
     private void state() {

@@ -1,3 +1,5 @@
+import java.util.Arrays;
+
 /**
  * One part for each promise of the document: ordinary inputs, edges, wrong inputs.
  *
@@ -934,22 +936,41 @@ public final class PromiseTest {
         due("31: ints skipped", judged(PLAIN, 2, MIN, 1, MIN, 3), -4);
         due("31: the least of bytes in shorts", judged(PLAIN, 1, 0, -128), 1);
         due("31: the least of shorts in ints", judged(PLAIN, 2, 0, -32768), 1);
-        int[] all = new int[100];
-        for (int i = 0; i < 100; i++) {
-            all[i] = Math.min(i, 10);
-        }
-        due("31: 100 told", judged(PLAIN, 0, all), -4);
-        all[41] = 9;
-        due("31: beyond 40", judged(PLAIN, 0, all), 41);
-        all[41] = -128;
-        all[99] = 11;
-        due("31: the last", judged(PLAIN, 0, all), 99);
+        judgeBeyondForty();
         PushedTillItCatches x = told(RUNNING);
         shelfRefusals("31: judge", new int[] {x.judge(-1), x.judge(8), x.judge(2)});
         x.keep(2, 1, 7, 7);
         due("31: judge of a YARD", x.judge(2), -12);
         x.row(2, 0, 0);
         due("31: judge while it RUNS", x.judge(2), -3);
+    }
+
+    private static void judgeBeyondForty() {
+        int[] upTo40 = new int[41];
+        int[] all = new int[100];
+        for (int i = 0; i < 100; i++) {
+            all[i] = Math.min(i, 10);
+        }
+        System.arraycopy(all, 0, upTo40, 0, 41);
+        due("31: all up to 40 so", judged(PLAIN, 0, upTo40), -4);
+        due("31: beyond 40 none is so", judged(PLAIN, 0, all), 41);
+        upTo40[40] = 9;
+        due("31: 40 is not so", judged(PLAIN, 1, upTo40), 40);
+        all[41] = 9;
+        due("31: beyond 40, not the PACE", judged(PLAIN, 2, all), 41);
+        all[41] = -128;
+        due("31: 41 is skipped", judged(PLAIN, 0, all), 42);
+        due("31: the least of bytes beyond 40 in shorts", judged(PLAIN, 1, all), 41);
+        Arrays.fill(all, 41, 99, -128);
+        due("31: the last", judged(PLAIN, 0, all), 99);
+        all[99] = -128;
+        due("31: all beyond 40 skipped", judged(PLAIN, 0, all), -4);
+        all[7] = 8;
+        due("31: ahead of 40", judged(PLAIN, 0, all), 7);
+        due("31: no YARDS", judged("w08;", 0, new int[41]), -4);
+        due("31: no YARDS, beyond 40", judged("w08;", 0, new int[76]), 41);
+        Arrays.fill(all, MIN);
+        due("31: all skipped", judged(PLAIN, 2, all), -4);
     }
 
     /** Promise 32. */
