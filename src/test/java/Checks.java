@@ -71,4 +71,52 @@ final class Checks {
         state.append(x.curve(1, 0));
         return state.toString();
     }
+
+    /** All that any call can tell of an object, SHELVES and THE IMAGE too; it is changed by that. */
+    static String everythingOf(PushedTillItCatches x) {
+        StringBuilder all = new StringBuilder();
+        all.append(stateOf(x)).append(figuresOf(x));
+        for (int d = 0; d < 8; d++) {
+            all.append("| ").append(shelfOf(x, d));
+        }
+        all.append("image ").append(x.restore()).append(' ');
+        return all.append(stateOf(x)).append(figuresOf(x)).toString();
+    }
+
+    /** WEIGHT, COLD, GAS, HAND. */
+    private static String figuresOf(PushedTillItCatches x) {
+        StringBuilder figures = new StringBuilder(" figures");
+        for (int what = 0; what < 4; what++) {
+            int v = x.set(what, 1);
+            x.set(what, v);
+            figures.append(' ').append(v);
+        }
+        return figures.append(' ').toString();
+    }
+
+    private static String shelfOf(PushedTillItCatches x, int d) {
+        StringBuilder shelf = new StringBuilder();
+        // Of two rows side by side the last number tells whether they are of one SORT.
+        shelf.append(x.cost(d)).append(' ').append(x.toss(d)).append(' ').append(x.copy(d, 0, (d + 1) % 8, 0, 0));
+        int size = 0;
+        while (x.cost(d) == -12 && thrownBy(x, d, size) == null) {
+            shelf.append(' ').append(x.element(d, size));
+            size++;
+        }
+        if (size > 0) {
+            x.put(d, 0, 70000);
+            shelf.append(" sort ").append(x.element(d, 0));
+        }
+        return shelf.append(' ').toString();
+    }
+
+    /** What element throws; null, if it answers. */
+    static Class<?> thrownBy(PushedTillItCatches x, int d, int i) {
+        try {
+            x.element(d, i);
+            return null;
+        } catch (RuntimeException thrown) {
+            return thrown.getClass();
+        }
+    }
 }

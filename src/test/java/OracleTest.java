@@ -30,6 +30,9 @@ public final class OracleTest {
 
     private void go() {
         tellText(0, beginning());
+        if (run % 4 == 3) {
+            tellText(0, yards(inside(9, 14)));
+        }
         while (calls < CALLS) {
             oneCall();
         }
@@ -49,12 +52,17 @@ public final class OracleTest {
         checks.due("run " + run + ", call " + calls + ": " + call, got, want);
     }
 
-    private String beginning() {
+    private String yards(int howMany) {
         StringBuilder text = new StringBuilder();
-        int yards = inside(0, 9);
-        for (int k = 0; k < yards; k++) {
+        for (int k = 0; k < howMany; k++) {
             text.append('y').append(inside(0, 7)).append(inside(0, 9)).append(';');
         }
+        return text.toString();
+    }
+
+    private String beginning() {
+        int yards = inside(0, 9);
+        StringBuilder text = new StringBuilder(yards(yards));
         int pushers = inside(yards == 0 ? 1 : 0, 5);
         for (int k = 0; k < pushers; k++) {
             text.append('p').append(two(inside(0, 20))).append(two(inside(0, 40))).append(inside(0, 1)).append(';');
@@ -135,7 +143,7 @@ public final class OracleTest {
             int at = from(0, Math.max(0, x.count(0)));
             same("parks(" + at + ")", x.parks(at), oracle.parks(at));
         } else if (a <= 7) {
-            int n = from(1, 3);
+            int n = random.nextInt(6) == 0 ? inside(19, 21) : from(1, 3);
             same("rolls(" + n + ")", x.rolls(n), oracle.rolls(n));
         } else if (a == 8) {
             int gear = from(1, 3);
@@ -204,7 +212,7 @@ public final class OracleTest {
 
     private void shelves() {
         int d = from(0, 7);
-        int i = from(0, 8);
+        int i = random.nextInt(6) == 0 ? inside(98, 101) : from(0, 8);
         int v = random.nextInt();
         switch (random.nextInt(8)) {
             case 0:

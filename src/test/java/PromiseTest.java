@@ -535,6 +535,7 @@ public final class PromiseTest {
         int[] lows = {4, 6, 11};
         int[] highs = {7, 12, 20};
         for (int cold = 0; cold < 10; cold++) {
+            x = told("");
             for (int hand = 0; hand < 10; hand++) {
                 x.set(1, cold);
                 x.set(3, hand);
