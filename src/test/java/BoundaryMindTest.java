@@ -311,6 +311,9 @@ public final class BoundaryMindTest {
         pushedUp("BREATH 1 for two", parked("y49;y00;p00010;p00010;", 2), -4, -4);
         pushedUp("BREATH 2 and 0 for two", parked("y49;y00;p00000;p00020;", 2), 2, 1);
         pushedUp("BREATH 1 and 2 for two", parked("y49;y00;p00010;p00020;", 2), 2, 1);
+        String slope = "y49;" + TWENTY.substring(4);
+        pushedUp("five, BREATH 20", parked(slope + "p00000;p00050;p00190;p00200;p00010;", 20), 20, 1);
+        pushedUp("five, BREATH 19", parked(slope + "p00000;p00050;p00190;p00190;p00010;", 20), -4, -4);
         pushedUp("BREATH 1, and none to push", parked("y00;p07010;w01;", 1), -4, -4);
         pushedUp("BREATH 2, and 1 to push", parked("y00;p07020;w01;", 1), 1, 1);
         // With the PACE of now, 8, the slope would make it 15, which is CAUGHT; from 0 it COUGHS at 7.
@@ -416,6 +419,8 @@ public final class BoundaryMindTest {
         due("PACE 3 ahead of a CHURCH", told("y19;y70;y00;r01;").safe(), 0);
         due("a CHURCH ahead of a CROSSING", told("y16;y70;y60;r01;").safe(), 1);
         due("PACE 0 ahead of it", told("y60;p20400;").safe(), 1);
+        due("nobody pushes, though they could", told("y00;y60;p20400;w01;").safe(), 1);
+        due("nobody pushes any more", told("y13;y00;y60;y00;p08400;r01;").safe(), 1);
         due("over the last YARD", told("y49;y60;").safe(), 0);
         due("it stops a YARD ahead of it", told("y16;y00;y00;y60;").safe(), 1);
         due("it stops at it", told("y16;y00;y60;").safe(), 1);

@@ -126,8 +126,8 @@ public final class MachineTest {
         for (int run = 0; run < 300; run++) {
             Random random = new Random(run);
             String street = "y1" + run % 10 + ";y63;y59;y29;y45;y34;y77;p12051;p20400;p00001;w0" + (1 + run % 9) + ";";
-            PushedTillItCatches x = Checks.told(run % 3 == 0 ? "" : street);
-            for (int k = 0; k < 480; k++) {
+            PushedTillItCatches x = run % 3 == 1 ? Streets.full() : Checks.told(run % 3 == 0 ? "" : street);
+            for (int k = 0; k < 400; k++) {
                 Method call = calls.get(random.nextInt(calls.size()));
                 Object[] arguments = new Object[call.getParameterCount()];
                 for (int a = 0; a < arguments.length; a++) {

@@ -531,11 +531,10 @@ public final class PromiseTest {
 
     /** Promise 14. */
     private static void curve() {
-        PushedTillItCatches x = told("");
         int[] lows = {4, 6, 11};
         int[] highs = {7, 12, 20};
         for (int cold = 0; cold < 10; cold++) {
-            x = told("");
+            PushedTillItCatches x = told("");
             for (int hand = 0; hand < 10; hand++) {
                 x.set(1, cold);
                 x.set(3, hand);
@@ -547,6 +546,7 @@ public final class PromiseTest {
                 }
             }
         }
+        PushedTillItCatches x = told("");
         due("14: curve(0, 0)", x.curve(0, 0), -1);
         due("14: curve(4, 0)", x.curve(4, 0), -1);
         due("14: curve(1, 3)", x.curve(1, 3), -1);
