@@ -595,7 +595,7 @@ public final class BoundaryMindTest {
     }
 
     private static void gettingIn() {
-        document.says(28, "PUSHERS get in one by one (by numbers), one each YARD from now, and push no more");
+        document.says(28, "GETTING IN: PUSHERS get in one by one (by numbers), one each YARD from now, and push no more");
         for (int gear : new int[] {MIN, -1, 0, 4, MAX}) {
             noSuch("gettingIn(" + gear + ")", x -> x.gettingIn(gear));
         }
@@ -763,7 +763,7 @@ public final class BoundaryMindTest {
     }
 
     private static void mornings() {
-        document.says(32, "n mornings (1 .. 20)");
+        document.says(32, "MORNINGS with a seed z: n mornings (1 .. 20)");
         for (int n : new int[] {MIN, -1, 0, 21, MAX}) {
             noSuch("mornings(" + n + ", 1, 0)", x -> x.mornings(n, 1, 0));
         }

@@ -58,10 +58,14 @@ final class Sentences {
 
     /** Ends the checks; each promise from the first to the last must have had a sentence. */
     void end(int first, int last) {
-        endSentence();
         for (int promise = first; promise <= last; promise++) {
             checks.holds("promise " + promise + " has a sentence", promises.contains(promise));
         }
+        end();
+    }
+
+    void end() {
+        endSentence();
         System.out.println(sentences + " sentences, of promises " + promises.first() + " to " + promises.last());
         checks.end();
     }
